@@ -206,7 +206,7 @@ public final class CanalCity {
     }
 
     private static void checkNumber(int place) {
-        if (place < 0 || place >= LOTS) {
+        if (!isLot(place)) {
             throw new IndexOutOfBoundsException("a lot is 0 to 63");
         }
     }
@@ -235,7 +235,11 @@ public final class CanalCity {
         }
     }
 
-    // ---- kinds and neighbours
+    // ---- lots, kinds and neighbours
+
+    private static boolean isLot(int place) {
+        return place >= 0 && place < LOTS;
+    }
 
     private static int costOf(int kind) {
         switch (kind) {
@@ -365,8 +369,11 @@ public final class CanalCity {
                     sinking++;
                 }
             }
-            for (int i = 0; i < sinking; i++) {
-                kinds[waiting[i]] = MARSH;
+            for (int i = 0; i < sinking && i < LOTS; i++) {
+                int place = waiting[i];
+                if (isLot(place)) {
+                    kinds[place] = MARSH;
+                }
             }
         }
 
@@ -401,7 +408,7 @@ public final class CanalCity {
         }
 
         private void enter(int quarter, int kind) {
-            if (quarter < 0) {
+            if (!isLot(quarter)) {
                 return;
             }
             lotsOf[quarter]++;
@@ -428,9 +435,9 @@ public final class CanalCity {
             int end = 1;
             for (int at = 0; at < end && at < LOTS; at++) {
                 int from = waiting[at];
-                for (int side = 0; side < SIDES_OF_A_LOT; side++) {
+                for (int side = 0; isLot(from) && side < SIDES_OF_A_LOT; side++) {
                     int next = neighbour(from, side);
-                    if (next >= 0 && marks[next] < 0 && end < LOTS
+                    if (isLot(next) && marks[next] < 0 && end < LOTS
                             && (byLand ? isLand(kinds[next]) : isWater(kinds[next]))) {
                         marks[next] = marks[from] + more;
                         waiting[end] = next;
@@ -466,17 +473,17 @@ public final class CanalCity {
 
         int lotsOfQuarter(int place) {
             int quarter = quarters[place];
-            return quarter < 0 ? 0 : lotsOf[quarter];
+            return isLot(quarter) ? lotsOf[quarter] : 0;
         }
 
         private int housesInQuarter(int place) {
             int quarter = quarters[place];
-            return quarter < 0 ? 0 : housesOf[quarter];
+            return isLot(quarter) ? housesOf[quarter] : 0;
         }
 
         private int marketsInQuarter(int place) {
             int quarter = quarters[place];
-            return quarter < 0 ? 0 : marketsOf[quarter];
+            return isLot(quarter) ? marketsOf[quarter] : 0;
         }
 
         private boolean isOpenWater(int place) {
@@ -490,7 +497,7 @@ public final class CanalCity {
             }
             for (int side = 0; side < SIDES_OF_A_LOT; side++) {
                 int next = neighbour(place, side);
-                if (next >= 0 && isOpenWater(next)) {
+                if (isLot(next) && isOpenWater(next)) {
                     return true;
                 }
             }
@@ -501,7 +508,7 @@ public final class CanalCity {
             int found = 0;
             for (int side = 0; side < SIDES_OF_A_LOT; side++) {
                 int next = neighbour(place, side);
-                if (next >= 0 && kinds[next] == kind) {
+                if (isLot(next) && kinds[next] == kind) {
                     found++;
                 }
             }
