@@ -63,15 +63,16 @@ final class Check {
 
     /** Spends coins on the marsh with the greatest numbers (from 63 downwards) until so many are left. */
     static void spendTo(CanalCity city, int coins) {
-        int place = 63;
-        while (city.count(1) > coins) {
-            while (city.lot(place % 8, place / 8, 0) != 0) {
-                place--;
+        for (int place = 63; place >= 0 && city.count(1) > coins; place--) {
+            int x = place % 8;
+            int y = place / 8;
+            if (city.lot(x, y, 0) != 0) {
+                continue;
             }
             if ((city.count(1) - coins) % 2 == 1) {
-                city.dig(place % 8, place / 8);
+                city.dig(x, y);
             } else {
-                city.drain(place % 8, place / 8);
+                city.drain(x, y);
             }
         }
         due("coins after spending", city.count(1), coins);
