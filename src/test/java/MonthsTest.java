@@ -356,6 +356,9 @@ public final class MonthsTest {
     private static void digests() {
         for (CanalCity city : towns()) {
             Check.due("digest", city.digest(), digestOf(city));
+        }
+        // Towns made anew, as an object answers no more than 512 calls.
+        for (CanalCity city : towns()) {
             city.pass(2);
             Check.due("digest two months later", city.digest(), digestOf(city));
         }
